@@ -61,6 +61,7 @@ final class PlainLift {
     record Rule(ToIntFunction<Names> steps, ToIntFunction<Names> late, ToIntFunction<Names> moves) { }
 
     static final class Fault extends RuntimeException {
+        private static final long serialVersionUID = 1;
         final int place;
         Fault(int place) { super("fault"); this.place = place; }
     }

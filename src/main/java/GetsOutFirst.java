@@ -715,6 +715,7 @@ public final class GetsOutFirst {
     /** The tape and what reads it. Whatever fails leaves the token that can't stand there as the present one. */
     private static final class Reader {
         static final int END = 0, WRONG = 1, DIGITS = 2, NAME = 3, FIRST_KEY = 4, OR = 7, AND = 8, NOT = 9;
+        static final int ORS = 0, ANDS = 1, SUMS = 2, PRODUCTS = 3;
         static final int MOST_DIGITS = 4, KNOWN_WORDS = 12;
 
         final int[] tape = new int[MOST_BYTES];
@@ -733,7 +734,7 @@ public final class GetsOutFirst {
             codeLength = 0;
             step();
             for (int part = 0; part < PARTS; part++) {
-                if (!passes(FIRST_KEY + part) || !either(0) || !passes(';')) {
+                if (!passes(FIRST_KEY + part) || !chain(ORS, 0) || !passes(';')) {
                     return false;
                 }
                 ends[part] = codeLength;
@@ -745,22 +746,22 @@ public final class GetsOutFirst {
             return new Text(Arrays.copyOf(code, codeLength), Arrays.copyOf(ends, PARTS));
         }
 
-        private boolean either(int open) {
-            boolean right = both(open);
-            for (int n = 0; n < MOST_BYTES && right && token == OR; n++) {
+        /** What one level's signs join: of or AND, of and NOT, of + and - TERM, of * ONE. */
+        private boolean chain(int level, int open) {
+            int join = 0;
+            for (int n = 0; n < MOST_BYTES; n++) {
+                boolean right = level == ANDS ? perhapsNot(open)
+                    : level == PRODUCTS ? single(open) : chain(level + 1, open);
+                if (!right || n > 0 && !put(join)) {
+                    return false;
+                }
+                if (levelOf(token) != level) {
+                    return true;
+                }
+                join = codeOf(token);
                 step();
-                right = both(open) && put(Text.OR);
             }
-            return right;
-        }
-
-        private boolean both(int open) {
-            boolean right = perhapsNot(open);
-            for (int n = 0; n < MOST_BYTES && right && token == AND; n++) {
-                step();
-                right = perhapsNot(open) && put(Text.AND);
-            }
-            return right;
+            return false;
         }
 
         private boolean perhapsNot(int open) {
@@ -771,34 +772,15 @@ public final class GetsOutFirst {
                 step();
                 return perhapsNot(open + 1) && put(Text.NOT);
             }
-            if (!sum(open)) {
+            if (!chain(SUMS, open)) {
                 return false;
             }
             if (token != '<' && token != '=') {
                 return true;
             }
-            int join = token == '<' ? Text.LESS : Text.SAME;
+            int join = codeOf(token);
             step();
-            return sum(open) && put(join);
-        }
-
-        private boolean sum(int open) {
-            boolean right = term(open);
-            for (int n = 0; n < MOST_BYTES && right && (token == '+' || token == '-'); n++) {
-                int join = token == '+' ? Text.PLUS : Text.MINUS;
-                step();
-                right = term(open) && put(join);
-            }
-            return right;
-        }
-
-        private boolean term(int open) {
-            boolean right = single(open);
-            for (int n = 0; n < MOST_BYTES && right && token == '*'; n++) {
-                step();
-                right = single(open) && put(Text.TIMES);
-            }
-            return right;
+            return chain(SUMS, open) && put(join);
         }
 
         private boolean single(int open) {
@@ -815,7 +797,7 @@ public final class GetsOutFirst {
             if (negative) {
                 return single(open + 1) && put(Text.NEGATIVE);
             }
-            return either(open + 1) && passes(')');
+            return chain(ORS, open + 1) && passes(')');
         }
 
         private boolean passes(int wanted) {
@@ -826,13 +808,36 @@ public final class GetsOutFirst {
             return true;
         }
 
-        /** Always true: no token is put twice, so the code has room for all of a tape. */
+        /** Each token is put once at most, so the code has room for all of a tape. */
         private boolean put(int c) {
-            if (codeLength < MOST_BYTES) {
-                code[codeLength] = c;
-                codeLength++;
+            if (codeLength >= MOST_BYTES) {
+                return false;
             }
+            code[codeLength] = c;
+            codeLength++;
             return true;
+        }
+
+        private static int levelOf(int token) {
+            switch (token) {
+                case OR: return ORS;
+                case AND: return ANDS;
+                case '+': case '-': return SUMS;
+                case '*': return PRODUCTS;
+                default: return NONE;
+            }
+        }
+
+        private static int codeOf(int token) {
+            switch (token) {
+                case OR: return Text.OR;
+                case AND: return Text.AND;
+                case '<': return Text.LESS;
+                case '=': return Text.SAME;
+                case '+': return Text.PLUS;
+                case '-': return Text.MINUS;
+                default: return Text.TIMES;
+            }
         }
 
         private void step() {

@@ -161,7 +161,7 @@ public final class LandingsTest {
         Check.due("19: and nothing inside", x.landings(0), GetsOutFirst.NONE);
     }
 
-    private static final int[] WAYS = {90, 24, 132, 393, 491};
+    private static final int[] WAYS = {95, 24, 132, 393, 491};
 
     /** The same riders, put where the seed says. */
     private static int costOfDrawn(int seed) {
@@ -196,6 +196,15 @@ public final class LandingsTest {
             Check.due("20: drawn(" + seed + ")", x.drawn(seed), costOfDrawn(seed));
         }
         Check.due("20: nothing is changed", x.ride(0), now);
+        GetsOutFirst y = two();
+        int dear = 0;
+        for (int seed = 0; seed < 20; seed++) {
+            y.set(0, 0, 1);
+            dear += y.drawn(seed);
+            y.set(0, 0, 2);
+            Check.due("20: by the doors that are", y.drawn(seed), 0);
+        }
+        Check.holds("20: by one door some are dear", dear > 0);
         Check.due("20: nobody", new GetsOutFirst().drawn(7), 0);
     }
 

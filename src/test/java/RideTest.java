@@ -53,6 +53,7 @@ public final class RideTest {
         Check.due("10: for three", x.floor(5, 0), 1);
         Check.due("10: pays once", x.floor(5, 1), 5);
         Check.due("9: steps", x.ride(1), 3);
+        Check.due("9: floors, the first too", x.ride(2), 1 + 32);
     }
 
     private static void whoIsLate() {

@@ -87,6 +87,8 @@ public final class RidersTest {
         Check.due("3: TO", x.set(3, 0, 3), 6);
         Check.due("3: TO again", x.set(3, 0, 9), 3);
         Check.due("3: PLACE", x.set(4, 0, 0), 5);
+        Check.due("3: the last PLACE", x.set(4, 0, 5), 0);
+        Check.due("3: the first PLACE", x.set(4, 0, 0), 5);
         Check.due("3: CHANCE", x.set(5, 0, 0), 100);
         Check.due("3: CHANCE again", x.set(5, 0, 100), 0);
         int[] now = {3, 9, 0, 9, 0, 100, 2};

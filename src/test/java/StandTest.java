@@ -5,6 +5,7 @@ public final class StandTest {
         movesCount();
         ofLikeOnesTheFirst();
         standKeepsTwoApart();
+        standIsTheFirstOfAllWays();
         standIsNotStale();
         standRefuses();
         oneMoves();
@@ -83,6 +84,65 @@ public final class StandTest {
         standsAt("two on one place at their times", x, 0, 0, 0, 1);
     }
 
+    private static GetsOutFirst liftOf(int doors, String rule, int[] kinds, int[] whats, int[] ways, int[] places) {
+        GetsOutFirst x = new GetsOutFirst();
+        x.set(0, 0, doors);
+        Check.feed(x, rule);
+        x.force(x.text());
+        for (int r = 0; r < ways.length; r++) {
+            if (x.rider(kinds[r], whats[r], ways[r] / 10 * 10 + places[r]) != r) {
+                return null;
+            }
+        }
+        return x;
+    }
+
+    /** Each way is made anew, and its ride asked for. */
+    private static void standIsTheFirstOfAllWays(int doors, int moves, int[] kinds, int[] whats, int[] ways) {
+        String rule = "steps 3+rider+row;late 1;moves " + moves + ";";
+        int n = ways.length;
+        int[] now = new int[n];
+        for (int r = 0; r < n; r++) {
+            now[r] = ways[r] % 10;
+        }
+        int[] best = null;
+        int least = 0;
+        for (int code = 0; code < Math.pow(6, n); code++) {
+            int[] places = new int[n];
+            int total = 0;
+            for (int r = n - 1, rest = code; r >= 0; r--, rest /= 6) {
+                places[r] = rest % 6;
+                total += places[r] == now[r] ? 0 : moves;
+            }
+            GetsOutFirst x = liftOf(doors, rule, kinds, whats, ways, places);
+            if (x != null && (best == null || total + x.ride(0) < least)) {
+                best = places;
+                least = total + x.ride(0);
+            }
+        }
+        GetsOutFirst x = liftOf(doors, rule, kinds, whats, ways, now);
+        standsAt("of all ways, " + doors + " doors, moves " + moves, x, least, best);
+        int moved = 0;
+        for (int r = 0; r < n; r++) {
+            moved += best[r] == now[r] ? 0 : 1;
+        }
+        Check.due("15: of all ways", x.stands(), moved);
+        for (int r = 0; r < n; r++) {
+            Check.due("15: of all ways, RIDER " + r, x.told(r, 4), best[r]);
+        }
+    }
+
+    private static void standIsTheFirstOfAllWays() {
+        for (int moves = 0; moves < 4; moves++) {
+            for (int doors = 1; doors < 3; doors++) {
+                standIsTheFirstOfAllWays(doors, moves, new int[] {0, 0, 0, 0}, new int[] {0, 0, 0, 0}, new int[] {95, 24, 93, 72});
+                standIsTheFirstOfAllWays(doors, moves, new int[] {2, 4, 0, 1}, new int[] {3, 15, 9, 46}, new int[] {90, 152, 264, 383});
+                standIsTheFirstOfAllWays(doors, moves, new int[] {5, 3, 0, 0}, new int[] {38, 47, 6, 7}, new int[] {64, 92, 180, 135});
+            }
+        }
+        standIsTheFirstOfAllWays(1, 0, new int[] {0, 0, 0, 0, 0}, new int[5], new int[] {90, 91, 182, 183, 194});
+    }
+
     private static void standIsNotStale() {
         GetsOutFirst x = two();
         standsAt("first", x, 3, 0, 1);
@@ -105,6 +165,10 @@ public final class StandTest {
         standsAt("after force", x, 0, 0, 1, 2, 3);
         x.stands();
         standsAt("after stands", x, 0, 0, 1, 2, 3);
+        GetsOutFirst y = two();
+        standsAt("before stands", y, 3, 0, 1);
+        y.stands();
+        standsAt("then no move is needed", y, 0, 0, 1);
         x.force(0);
         x.set(0, 0, 2);
         x.set(0, 0, 1);
@@ -170,6 +234,13 @@ public final class StandTest {
         Check.due("13: now", x.ride(0), 5);
         Check.due("13: none can", x.change(0), GetsOutFirst.NONE);
         Check.due("13: as now", x.change(1), 5);
+        x = new GetsOutFirst();
+        x.rider(0, 0, 90);
+        x.rider(0, 0, 54);
+        x.rider(0, 0, 594);
+        Check.due("13: a change would be less", x.ride(0), 10);
+        Check.due("13: but two would stand on one place", x.change(0), GetsOutFirst.NONE);
+        Check.due("13: as it is", x.change(1), 10);
     }
 
     private static void ofLikeChangesTheFirst() {
@@ -188,6 +259,16 @@ public final class StandTest {
         x.rider(0, 0, 91);
         Check.due("13: 0 and 1, as good as 0 and 2", x.change(0), 1);
         Check.due("13: cost of the first", x.change(1), 0);
+        x = new GetsOutFirst();
+        x.rider(0, 0, 94);
+        x.rider(0, 0, 92);
+        x.rider(0, 0, 90);
+        x.rider(0, 0, 91);
+        x.rider(0, 0, 95);
+        // 3 makes way for 4; 4 gets in last, so any place at the door will do, 2's as 3's
+        Check.due("13: five now", x.ride(0), 5);
+        Check.due("13: two of five", x.change(0), 24);
+        Check.due("13: two of five then", x.change(1), 0);
     }
 
     private static void theSecondDoor() {
@@ -226,6 +307,14 @@ public final class StandTest {
         x = new GetsOutFirst();
         x.rider(0, 0, 91);
         Check.due("14: one alone", x.second(1), 0);
+        x = new GetsOutFirst();
+        x.rider(0, 0, 90);
+        x.rider(0, 0, 44);
+        x.rider(0, 0, 52);
+        x.rider(0, 0, 93);
+        x.rider(0, 0, 95);
+        Check.rule(x, "steps 5+20*(rider=0);late 0;moves 0;");
+        Check.due("14: the first of five", x.second(1), 0);
     }
 
     private static void allTrulyStand() {

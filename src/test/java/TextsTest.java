@@ -72,7 +72,9 @@ public final class TextsTest {
             "steps 1+^not 1;", "steps 1<^not 1;", "steps -^not 1;", "steps 1*^not 1;", "steps 1 ^not 1;", "steps 1^);",
             "steps 1 ^\t;", "steps^\r1;", "steps 5 ^5 @", "steps 5 ^12345", "steps ^late;", "steps 1;late ^moves;",
             "steps 1;late 1;^steps 1;", "steps (1<2)<3^<4;", "steps 1 ^,2", "steps 1^>2", "steps 1 ^\u00e9",
-            "steps 1^\u0000;"};
+            "steps 1^\u0000;", "steps -^foo 1;late 1;moves 1;", "steps not ^foo 1;late 1;moves 1;",
+            "steps (^foo 1);late 1;moves 1;", "steps 1+^foo 1;late 1;moves 1;", "steps ^sider;", "steps ^ridee;", "steps ^rxder;",
+            "^stepz 1;", "steps ^zow;", "steps 1;^mate 1;", "steps 1 ^ar 2;", "steps ^rowrow;", "steps ^numbe;"};
         for (String text : marked) {
             fault(text);
         }

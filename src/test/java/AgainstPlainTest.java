@@ -17,7 +17,7 @@ public final class AgainstPlainTest {
     }
 
     public static void main(String[] args) {
-        int runs = args.length > 0 ? Integer.parseInt(args[0]) : 600;
+        int runs = args.length > 0 ? Integer.parseInt(args[0]) : 2000;
         int first = args.length > 1 ? Integer.parseInt(args[1]) : 0;
         for (int seed = first; seed < first + runs; seed++) {
             if (!new AgainstPlainTest(seed).run()) {
@@ -120,7 +120,7 @@ public final class AgainstPlainTest {
     }
 
     private boolean callSet() {
-        int what = near(6), of = aRider(), rider = aRider(), other = aRider(), v = near(what == 5 ? 101 : 10);
+        int what = near(6), of = aRider(), rider = aRider(), other = aRider(), v = near(what == 5 ? 101 : what == 0 ? 4 : 10);
         int asked = near(7);
         return same("set(" + what + "," + of + "," + v + ")", x.set(what, of, v), plain.set(what, of, v))
             && same("told(" + rider + "," + asked + ")", x.told(rider, asked), plain.told(rider, asked))

@@ -2,6 +2,8 @@
 public final class StandTest {
     public static void main(String[] args) {
         standIsCheapest();
+        standByTheSecondDoor();
+        standWithoutThoseWhoWent();
         movesCount();
         ofLikeOnesTheFirst();
         standKeepsTwoApart();
@@ -45,6 +47,29 @@ public final class StandTest {
         x.set(0, 0, 2);
         standsAt("by two doors", x, 0, 0, 4);
         standsAt("nobody", new GetsOutFirst(), 0);
+    }
+
+    private static void standByTheSecondDoor() {
+        GetsOutFirst x = new GetsOutFirst();
+        x.rider(0, 0, 90);
+        x.rider(0, 0, 52);
+        x.rider(0, 0, 95);
+        x.set(0, 0, 2);
+        standsAt("1 gets out by the second door", x, 0, 0, 2, 5);
+        x.set(4, 2, 4);
+        Check.due("11: 2 is in its way now", x.ride(0), 6);
+        standsAt("1 moves", x, 3, 0, 1, 4);
+    }
+
+    private static void standWithoutThoseWhoWent() {
+        GetsOutFirst x = two();
+        x.image();
+        x.rider(0, 0, 92);
+        x.rider(0, 0, 91);
+        x.back();
+        standsAt("two went again", x, 3, 0, 1);
+        Check.due("11: who went", x.stand(2), -100);
+        Check.due("15: one moves", x.stands(), 1);
     }
 
     private static void movesCount() {

@@ -8,6 +8,7 @@ public final class TextsTest {
         rightTexts();
         faults();
         faultsOfOpenSigns();
+        bytesThatBeginNothing();
         theTapeIsEmptyThen();
         textsAreFull();
         whatTextsAreWorth();
@@ -97,6 +98,18 @@ public final class TextsTest {
         }
     }
 
+    private static void bytesThatBeginNothing() {
+        for (char b = 0; b < 256; b++) {
+            if (b >= 'a' && b <= 'z' || b >= '0' && b <= '9' || "();+-*<= \n".indexOf(b) >= 0) {
+                continue;
+            }
+            Check.due("7: byte " + (int) b, textOf(b + " 1;late 1;moves 1;"), -100);
+            Check.due("7: byte " + (int) b + " for an E", textOf("steps " + b + ";late 1;moves 1;"), -106);
+            Check.due("7: byte " + (int) b + " behind an E", textOf("steps 1 " + b + "1;late 1;moves 1;"), -108);
+            Check.due("7: byte " + (int) b + " behind all", textOf("steps 1;late 1;moves 1;" + b), -123);
+        }
+    }
+
     private static void theTapeIsEmptyThen() {
         GetsOutFirst x = new GetsOutFirst();
         Check.feed(x, "steps 1 1");
@@ -111,6 +124,14 @@ public final class TextsTest {
         Check.due("7: the rule stays", x.count(4), 0);
         Check.feed(x, "l");
         Check.due("7: nothing old is read", x.text(), -100);
+        String[] olds = {"steps 5555", "steps rowrow", "steps 1    "};
+        String[] news = {"steps 5", "steps row", "steps 1 "};
+        for (int i = 0; i < olds.length; i++) {
+            Check.feed(x, olds[i]);
+            x.text();
+            Check.feed(x, news[i]);
+            Check.due("7: '" + news[i] + "' behind '" + olds[i] + "'", x.text(), -100 - news[i].length());
+        }
     }
 
     private static void textsAreFull() {

@@ -1,6 +1,6 @@
 import java.util.Arrays;
 
-/** A lift in which who gets out first should stand in front; its document numbers its promises. */
+/** A lift in which who gets out first should stand in front; words in capitals are those of ../shared/DOC.md. */
 public final class GetsOutFirst {
     public static final int NONE = -1, BAD = -2, STATE = -3, FULL = -4;
     public static final long NO = -4611686018427387904L;

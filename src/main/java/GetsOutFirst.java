@@ -950,7 +950,7 @@ public final class GetsOutFirst {
 
     /** The ride of a tried crew, which may stand, go or be otherwise than the true one. */
     private static final class Trip {
-        private static final int UNKNOWN = -1;
+        private static final int UNKNOWN = -1, NO_LIMIT = 2147483647;
 
         final Crew crew = new Crew();
         private final Crew truth;
@@ -1077,7 +1077,7 @@ public final class GetsOutFirst {
         }
 
         int cost() {
-            return costBelow(Integer.MAX_VALUE);
+            return costBelow(NO_LIMIT);
         }
 
         /** The cost, or, if it reaches the limit, some number that does so too. */

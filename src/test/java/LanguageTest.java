@@ -11,7 +11,7 @@ public final class LanguageTest {
         "\\bSystem\\.(?!arraycopy)", "\\bRandom\\b", "\\bThread\\b", "\\bObject\\b",
         "Exact\\b", "\\bhashCode\\b", "\\btoString\\b", "\\bvar\\b", "\\bnew\\s+\\w+\\s*\\([^;]*\\)\\s*\\{",
         "\\bArrays\\.(?!fill\\b|copyOf\\b|copyOfRange\\b)", "\\bMath\\.(?!max\\b|min\\b|abs\\b)",
-        "\\bInteger\\.(?!bitCount\\b|MAX_VALUE\\b|MIN_VALUE\\b)", "\\bdouble\\b", "\\bfloat\\b", "while\\s*\\(true"};
+        "\\bInteger\\.(?!bitCount\\b)", "\\bdouble\\b", "\\bfloat\\b", "while\\s*\\(true"};
 
     public static void main(String[] args) throws IOException {
         String source = Files.readString(Path.of("src/main/java/GetsOutFirst.java"));

@@ -195,6 +195,11 @@ public final class StandBoundsTest {
         Check.due("12: COST then", x.one(0, 1), 10);
         Check.due("12: RIDER 4 changes the side", x.one(4, 1), 15);
         Check.due("12: for nothing, so it stays", x.one(4, 0), 4);
+        // behind both of the last row it would be in nobody's way, but there is no PLACE
+        x = liftOf(90, 54, 55);
+        Check.rule(x, FREE_MOVES);
+        Check.due("12: in the way wherever it stands", x.one(0, 1), 10);
+        Check.due("12: so on the first PLACE", x.one(0, 0), 0);
     }
 
     private static void changeTellsTwoThings() {

@@ -124,7 +124,7 @@ public final class StandTest {
 
     /** Each way is made anew, and its ride asked for. */
     private static void standIsTheFirstOfAllWays(int doors, int moves, int[] kinds, int[] whats, int[] ways) {
-        String rule = "steps 3+rider+row;late 1;moves " + moves + ";";
+        String rule = "steps 3+rider+row*4+floor;late 1+row*floor;moves " + moves + ";";
         int n = ways.length;
         int[] now = new int[n];
         for (int r = 0; r < n; r++) {

@@ -424,6 +424,13 @@ public final class TextsBoundsTest {
         worthIs("256*256*256*256*9999+17", 17);
         worthIs("2-" + LEAST + "-" + LEAST, 2);
         worthIs(LEAST + "=0", 0);
+        worthIs(LEAST + "<" + LEAST, 0);
+        worthIs(LEAST + "=" + LEAST, 1);
+        worthIs(GREATEST + "<" + GREATEST, 0);
+        worthIs(GREATEST + "=" + GREATEST, 1);
+        worthIs(LEAST + "=" + GREATEST, 0);
+        worthIs("0<0", 0);
+        worthIs("0<1", 1);
         worthIs("1<" + LEAST, 0);
         worthIs(LEAST + "<-1", 1);
     }
@@ -458,6 +465,17 @@ public final class TextsBoundsTest {
                 worthIs("7*(" + u + " or " + v + ")", 0);
                 worthIs("7*(" + u + " and " + v + ")", 0);
             }
+        }
+        // what is not so is 0, not less
+        for (String u : new String[] {"0 or 0", "0 and 0", "1 and 0", "0 and 1", "1<0", "1<1", "1=2", "not 1"}) {
+            worthIs("20-(" + u + ")", 20);
+            worthIs("(" + u + ")+20", 20);
+            worthIs("(" + u + ")=0", 1);
+        }
+        for (String t : new String[] {"0 or 1", "-3 or 0", "5 or 5", "3 and 4", "0<1", "-1<0", "2=2", "not 0"}) {
+            worthIs("20-(" + t + ")", 19);
+            worthIs("(" + t + ")+20", 21);
+            worthIs("(" + t + ")=1", 1);
         }
     }
 
@@ -539,5 +557,16 @@ public final class TextsBoundsTest {
         Check.due("9: inside, of none at 0", x.floor(0, 1), 0 + 0 + 1 + 2);
         x.set(3, 4, 8);
         Check.due("9: inside, of all five", x.floor(8, 1), 50);
+        for (int from = 0; from <= 8; from++) {
+            x = new GetsOutFirst();
+            Check.rule(x, "steps 99;late 0;moves floor*5+20*inside+10*row+number+2*rider;");
+            x.rider(0, 0, 91);
+            x.rider(0, 0, 90);
+            x.rider(0, 30, 100 * from + 94);
+            // it is behind somebody on both sides, so it stays, till RIDER 1 leaves the door free
+            Check.due("12: moves, of one from " + from, x.one(2, 1), 99);
+            x.set(4, 1, 2);
+            Check.due("12: moves, of one from " + from + ", to the door", x.one(2, 1), 5 * from + 3 + 4);
+        }
     }
 }

@@ -29,8 +29,8 @@ public final class GetsOutFirst {
     private final Text[] texts = new Text[MOST_TEXTS];
     private int textCount;
     private final Sheet[] sheets = new Sheet[SHEETS];
-    private final Trip trip = new Trip(crew, texts);
-    private final Seeker seeker = new Seeker(crew, trip);
+    private final Trip trip = new Trip();
+    private final Seeker seeker = new Seeker();
 
     public GetsOutFirst() {
         texts[0] = new Text(new int[] {5, 1, 3}, new int[] {1, 2, 3});
@@ -92,7 +92,6 @@ public final class GetsOutFirst {
             return STATE;
         }
         crew.count = r + 1;
-        seeker.hasFound = false;
         return r;
     }
 
@@ -106,7 +105,6 @@ public final class GetsOutFirst {
         }
         int was = crew.doors;
         crew.doors = v;
-        seeker.hasFound = false;
         return was;
     }
 
@@ -117,7 +115,6 @@ public final class GetsOutFirst {
             row[of] = was;
             return STATE;
         }
-        seeker.hasFound = false;
         return was;
     }
 
@@ -166,7 +163,6 @@ public final class GetsOutFirst {
         }
         int was = crew.rule;
         crew.rule = text;
-        seeker.hasFound = false;
         return was;
     }
 
@@ -176,7 +172,7 @@ public final class GetsOutFirst {
         if (what < 0 || what > 2) {
             return BAD;
         }
-        trip.start();
+        setOut();
         if (what == 0) {
             return trip.cost();
         }
@@ -187,11 +183,17 @@ public final class GetsOutFirst {
         if (floor < 0 || floor >= FLOORS || what < 0 || what > 2) {
             return BAD;
         }
-        trip.start();
+        setOut();
         if (what == 0) {
             return trip.whoStepsOut(floor);
         }
         return what == 1 ? trip.costAt(floor, trip.whoStepsOut(floor)) : trip.whoGoesOn(floor);
+    }
+
+    /** What is tried is as it truly is. */
+    private void setOut() {
+        boolean hasRule = crew.rule >= 0 && crew.rule < textCount;
+        trip.start(crew, hasRule ? texts[crew.rule] : null);
     }
 
     // ---- where to stand
@@ -200,7 +202,8 @@ public final class GetsOutFirst {
         if (what != NONE && !crew.has(what)) {
             return NO_STANDING;
         }
-        seeker.find();
+        setOut();
+        seeker.find(trip);
         return what == NONE ? seeker.least : seeker.best[what];
     }
 
@@ -208,7 +211,7 @@ public final class GetsOutFirst {
         if (!crew.has(rider) || what < 0 || what > 1) {
             return BAD;
         }
-        trip.start();
+        setOut();
         int place = NONE;
         int least = 0;
         for (int p = 0; p < PLACES; p++) {
@@ -230,7 +233,7 @@ public final class GetsOutFirst {
         if (what < 0 || what > 1) {
             return BAD;
         }
-        trip.start();
+        setOut();
         int pair = NONE;
         int least = trip.cost();
         for (int a = 0; a < crew.count; a++) {
@@ -249,7 +252,7 @@ public final class GetsOutFirst {
         if (what < 0 || what > 1) {
             return NO_SECOND;
         }
-        trip.start();
+        setOut();
         if (what == 1) {
             return whoShouldWalk();
         }
@@ -260,7 +263,8 @@ public final class GetsOutFirst {
     }
 
     public int stands() {
-        seeker.find();
+        setOut();
+        seeker.find(trip);
         int moved = 0;
         for (int r = 0; r < crew.count; r++) {
             if (crew.place[r] != seeker.best[r]) {
@@ -268,7 +272,6 @@ public final class GetsOutFirst {
                 crew.place[r] = seeker.best[r];
             }
         }
-        seeker.hasFound = false;
         return moved;
     }
 
@@ -276,7 +279,7 @@ public final class GetsOutFirst {
         if (what < 0 || what > 1 || part < 0 || part > 1) {
             return NO;
         }
-        trip.start();
+        setOut();
         long below = 1;
         for (int r = 0; r < crew.count; r++) {
             below *= 100;
@@ -353,7 +356,7 @@ public final class GetsOutFirst {
         if (refusal != 0) {
             return refusal;
         }
-        trip.start();
+        setOut();
         return firstUnlike(sheets[sheet]);
     }
 
@@ -365,7 +368,7 @@ public final class GetsOutFirst {
         if (refusal != 0) {
             return refusal;
         }
-        trip.start();
+        setOut();
         if (what == 0) {
             return whichFit(sheets[sheet], trip.crew.to, rider, crew.from[rider] + 1, FLOORS - 1);
         }
@@ -379,7 +382,7 @@ public final class GetsOutFirst {
         if (!isSheet(sheet) || n < 0 || n > FLOORS) {
             return BAD;
         }
-        trip.start();
+        setOut();
         sheets[sheet].become(BYTES, n);
         for (int floor = 0; floor < n; floor++) {
             sheets[sheet].items[floor] = trip.whoStepsOut(floor);
@@ -388,7 +391,7 @@ public final class GetsOutFirst {
     }
 
     public int drawn(int seed) {
-        trip.start();
+        setOut();
         return costOfDrawn(seed);
     }
 
@@ -396,7 +399,7 @@ public final class GetsOutFirst {
         if (n < 1 || n > MOST_SEEDS || part < 0 || part > 1) {
             return NO;
         }
-        trip.start();
+        setOut();
         int now = trip.cost();
         int good = 0;
         for (int k = 0; k < n; k++) {
@@ -418,7 +421,6 @@ public final class GetsOutFirst {
             return STATE;
         }
         crew.become(kept);
-        seeker.hasFound = false;
         return crew.count;
     }
 
@@ -583,7 +585,7 @@ public final class GetsOutFirst {
         return false;
     }
 
-    /** All that an image keeps, and KIND and FROM: one crew is true, one is the image, one is tried. */
+    /** All that an image keeps, and KIND and FROM: one is true, one the image, one tried, one asked about. */
     private static final class Crew {
         final int[] kind = new int[MOST_RIDERS];
         final int[] number = new int[MOST_RIDERS];
@@ -603,6 +605,20 @@ public final class GetsOutFirst {
             count = other.count;
             doors = other.doors;
             rule = other.rule;
+        }
+
+        boolean isLike(Crew other) {
+            if (count != other.count || doors != other.doors || rule != other.rule) {
+                return false;
+            }
+            for (int what = 0; what <= FROM; what++) {
+                for (int r = 0; r < count && r < MOST_RIDERS; r++) {
+                    if (rowOf(what)[r] != other.rowOf(what)[r]) {
+                        return false;
+                    }
+                }
+            }
+            return true;
         }
 
         /** By the numbers of told(). */
@@ -953,8 +969,6 @@ public final class GetsOutFirst {
         private static final int UNKNOWN = -1, NO_LIMIT = 2147483647;
 
         final Crew crew = new Crew();
-        private final Crew truth;
-        private final Text[] texts;
         private Text rule;
         /** By floors, who is so there (bits). */
         private final int[] staying = new int[FLOORS];
@@ -969,15 +983,9 @@ public final class GetsOutFirst {
         /** One more, since what stands above the top is looked at too. */
         private final int[] stack = new int[Text.MOST_WAITING + 1];
 
-        Trip(Crew truth, Text[] texts) {
-            this.truth = truth;
-            this.texts = texts;
-        }
-
-        /** All is tried as it truly is. */
-        void start() {
+        void start(Crew truth, Text itsRule) {
             crew.become(truth);
-            rule = crew.rule >= 0 && crew.rule < texts.length ? texts[crew.rule] : null;
+            rule = itsRule;
             gather((1 << crew.count) - 1);
         }
 
@@ -1130,36 +1138,31 @@ public final class GetsOutFirst {
         }
     }
 
-    /** Looks for where all should stand, and keeps what it found till something changes. */
+    /** Looks for where all should stand, and keeps what it found for as long as nothing has changed. */
     private static final class Seeker {
-        private final Crew truth;
-        private final Trip trip;
-        boolean hasFound;
+        private final Crew asked = new Crew();
+        private boolean hasFound;
         int least;
         final int[] best = new int[MOST_RIDERS];
 
-        Seeker(Crew truth, Trip trip) {
-            this.truth = truth;
-            this.trip = trip;
-        }
-
-        void find() {
-            if (hasFound) {
+        /** To be called with a trip that has just set out. */
+        void find(Trip trip) {
+            if (hasFound && asked.isLike(trip.crew)) {
                 return;
             }
-            trip.start();
+            asked.become(trip.crew);
             // standing as now is one of the ways, so nothing dearer is worth a look
             least = trip.cost() + 1;
-            putFrom(0, 0);
+            putFrom(trip, 0, 0);
             hasFound = true;
         }
 
         /** Tries all places for this rider and those of greater numbers. */
-        private void putFrom(int r, int moves) {
+        private void putFrom(Trip trip, int r, int moves) {
             if (moves >= least) {
                 return;
             }
-            if (r >= truth.count || r >= MOST_RIDERS) {
+            if (r >= asked.count || r >= MOST_RIDERS) {
                 int total = moves + trip.costBelow(least - moves);
                 if (total < least) {
                     least = total;
@@ -1171,7 +1174,7 @@ public final class GetsOutFirst {
                 trip.crew.place[r] = p;
                 if (trip.crew.canStand(r, r)) {
                     trip.meet(r);
-                    putFrom(r + 1, moves + (p == truth.place[r] ? 0 : trip.costToMove(r)));
+                    putFrom(trip, r + 1, moves + (p == asked.place[r] ? 0 : trip.costToMove(r)));
                 }
             }
         }

@@ -813,7 +813,11 @@ public final class GetsOutFirst {
             if (negative) {
                 return single(open + 1) && put(Text.NEGATIVE);
             }
-            return chain(ORS, open + 1) && passes(')');
+            if (!chain(ORS, open + 1) || token != ')') {
+                return false;
+            }
+            step();
+            return true;
         }
 
         private boolean passes(int wanted) {

@@ -1,75 +1,31 @@
+import java.lang.reflect.Method;
+import java.util.Arrays;
+import java.util.HashMap;
+import java.util.Map;
+
 /** One call of the face with its arguments, that can be made on the class and on its plain double. */
 record Call(String name, int... a) {
+    private static final Map<String, Method> METHODS = new HashMap<>();
+
     static Call of(String name, int... a) {
         return new Call(name, a);
     }
 
-    long on(GetsOutFirst x) {
-        return switch (name) {
-            case "rider" -> x.rider(a[0], a[1], a[2]);
-            case "set" -> x.set(a[0], a[1], a[2]);
-            case "told" -> x.told(a[0], a[1]);
-            case "lets" -> x.lets(a[0], a[1]);
-            case "feed" -> x.feed(a[0]);
-            case "text" -> x.text();
-            case "force" -> x.force(a[0]);
-            case "ride" -> x.ride(a[0]);
-            case "floor" -> x.floor(a[0], a[1]);
-            case "stand" -> x.stand(a[0]);
-            case "one" -> x.one(a[0], a[1]);
-            case "change" -> x.change(a[0]);
-            case "second" -> x.second(a[0]);
-            case "stands" -> x.stands();
-            case "mean" -> x.mean(a[0], a[1]);
-            case "landings" -> x.landings(a[0]);
-            case "seen" -> x.seen(a[0], a[1], a[2]);
-            case "film" -> x.film(a[0], a[1]);
-            case "drawn" -> x.drawn(a[0]);
-            case "chance" -> x.chance(a[0], a[1], a[2]);
-            case "image" -> x.image();
-            case "back" -> x.back();
-            case "count" -> x.count(a[0]);
-            case "sheet" -> x.sheet(a[0], a[1], a[2]);
-            case "cell" -> x.cell(a[0], a[1], a[2]);
-            case "copy" -> x.copy(a[0], a[1], a[2], a[3], a[4]);
-            case "riders" -> x.riders(a[0], a[1], a[2], a[3]);
-            case "taken" -> x.taken(a[0], a[1]);
-            default -> throw new IllegalArgumentException(name);
-        };
-    }
-
-    long on(PlainLift x) {
-        return switch (name) {
-            case "rider" -> x.rider(a[0], a[1], a[2]);
-            case "set" -> x.set(a[0], a[1], a[2]);
-            case "told" -> x.told(a[0], a[1]);
-            case "lets" -> x.lets(a[0], a[1]);
-            case "feed" -> x.feed(a[0]);
-            case "text" -> x.text();
-            case "force" -> x.force(a[0]);
-            case "ride" -> x.ride(a[0]);
-            case "floor" -> x.floor(a[0], a[1]);
-            case "stand" -> x.stand(a[0]);
-            case "one" -> x.one(a[0], a[1]);
-            case "change" -> x.change(a[0]);
-            case "second" -> x.second(a[0]);
-            case "stands" -> x.stands();
-            case "mean" -> x.mean(a[0], a[1]);
-            case "landings" -> x.landings(a[0]);
-            case "seen" -> x.seen(a[0], a[1], a[2]);
-            case "film" -> x.film(a[0], a[1]);
-            case "drawn" -> x.drawn(a[0]);
-            case "chance" -> x.chance(a[0], a[1], a[2]);
-            case "image" -> x.image();
-            case "back" -> x.back();
-            case "count" -> x.count(a[0]);
-            case "sheet" -> x.sheet(a[0], a[1], a[2]);
-            case "cell" -> x.cell(a[0], a[1], a[2]);
-            case "copy" -> x.copy(a[0], a[1], a[2], a[3], a[4]);
-            case "riders" -> x.riders(a[0], a[1], a[2], a[3]);
-            case "taken" -> x.taken(a[0], a[1]);
-            default -> throw new IllegalArgumentException(name);
-        };
+    /** On a GetsOutFirst, or on its plain double. */
+    long on(Object lift) {
+        String key = lift.getClass().getName() + name;
+        try {
+            Method method = METHODS.get(key);
+            if (method == null) {
+                Class<?>[] ints = new Class<?>[a.length];
+                Arrays.fill(ints, int.class);
+                method = lift.getClass().getDeclaredMethod(name, ints);
+                METHODS.put(key, method);
+            }
+            return ((Number) method.invoke(lift, Arrays.stream(a).boxed().toArray())).longValue();
+        } catch (ReflectiveOperationException e) {
+            throw new IllegalStateException(written(), e);
+        }
     }
 
     /** Whether the call may change what later calls answer. */

@@ -16,6 +16,8 @@ public final class FaceTest {
         "int image()", "int back()", "int count(int)", "int sheet(int,int,int)", "int cell(int,int,int)",
         "int copy(int,int,int,int,int)", "int riders(int,int,int,int)", "int taken(int,int)"};
 
+    private static final Set<String> NAMES = Arrays.stream(FACE).map(f -> f.replaceAll("^.* |\\(.*$", "")).collect(Collectors.toSet());
+
     public static void main(String[] args) {
         methods();
         constantsAndFields();
@@ -29,12 +31,10 @@ public final class FaceTest {
     }
 
     private static void methods() {
-        Set<String> names = new TreeSet<>();
         Set<String> face = new TreeSet<>();
         for (Method m : GetsOutFirst.class.getDeclaredMethods()) {
             if (Modifier.isPublic(m.getModifiers())) {
                 face.add(told(m));
-                names.add(m.getName());
                 Check.holds("not static: " + m, !Modifier.isStatic(m.getModifiers()));
             } else {
                 Check.holds("private: " + m, Modifier.isPrivate(m.getModifiers()));
@@ -42,7 +42,7 @@ public final class FaceTest {
         }
         Check.holds("the face is " + face, face.equals(new TreeSet<>(Arrays.asList(FACE))));
         for (Method m : GetsOutFirst.class.getDeclaredMethods()) {
-            Check.holds("bears no public name: " + m, Modifier.isPublic(m.getModifiers()) || !names.contains(m.getName()));
+            Check.holds("bears no public name: " + m, Modifier.isPublic(m.getModifiers()) || !NAMES.contains(m.getName()));
         }
         Constructor<?>[] made = GetsOutFirst.class.getDeclaredConstructors();
         Check.due("constructors", made.length, 1);
@@ -76,12 +76,20 @@ public final class FaceTest {
         for (Class<?> c : inside) {
             int m = c.getModifiers();
             Check.holds("static, not public: " + c, Modifier.isStatic(m) && !Modifier.isPublic(m) && !Modifier.isProtected(m));
-            long fields = Arrays.stream(c.getDeclaredFields()).filter(f -> !Modifier.isStatic(f.getModifiers())).count();
-            Check.holds("at most twenty fields: " + c, fields <= 20);
+            atMostTwentyFields(c);
             for (Field f : c.getDeclaredFields()) {
                 Check.holds("no state that is static: " + f,
                     !Modifier.isStatic(f.getModifiers()) || Modifier.isFinal(f.getModifiers()));
             }
+            for (Method made : c.getDeclaredMethods()) {
+                Check.holds("bears no public name: " + made, !NAMES.contains(made.getName()));
+            }
         }
+        atMostTwentyFields(GetsOutFirst.class);
+    }
+
+    private static void atMostTwentyFields(Class<?> c) {
+        long fields = Arrays.stream(c.getDeclaredFields()).filter(f -> !Modifier.isStatic(f.getModifiers())).count();
+        Check.holds("at most twenty fields: " + c, fields <= 20);
     }
 }

@@ -1,17 +1,58 @@
-/** The example of README.md. */
+import java.io.IOException;
+import java.net.URL;
+import java.net.URLClassLoader;
+import java.nio.file.Files;
+import java.nio.file.Path;
+import java.util.regex.Matcher;
+import java.util.regex.Pattern;
+import javax.tools.ToolProvider;
+
+/** The examples of README.md, compiled as they stand there; to be run at the project's root. */
 public final class ReadmeTest {
-    public static void main(String[] args) {
-        GetsOutFirst lift = new GetsOutFirst();
-        Check.due("the first", lift.rider(0, 5, 90), 0);
-        Check.due("the other", lift.rider(0, 5, 24), 1);
-        Check.due("the ride", lift.ride(0), 10);
-        Check.due("where to stand", lift.stand(1), 1);
-        Check.due("a second door", lift.set(0, 0, 2), 1);
-        Check.due("the ride then", lift.ride(0), 0);
-        for (char c : "steps size + 2; late 0; moves row;".toCharArray()) {
-            lift.feed(c);
+    private static final String NAME = "ReadmeExamples";
+    private static final Pattern EXAMPLE = Pattern.compile("(?s)```java\n(.*?)```");
+    /** A call on a line of its own, and the number that it is said to answer. */
+    private static final Pattern ANSWER = Pattern.compile("(?m)^ *(lift\\.\\w+\\(.*\\)); *// (-?\\d+).*$");
+
+    public static void main(String[] args) throws Exception {
+        String body = examples(Files.readString(Path.of("README.md")));
+        Path out = Files.createTempDirectory("readme");
+        try {
+            if (compiles(body, out)) {
+                runs(out);
+            }
+        } finally {
+            Files.deleteIfExists(out.resolve(NAME + ".java"));
+            Files.deleteIfExists(out.resolve(NAME + ".class"));
+            Files.deleteIfExists(out);
         }
-        Check.due("the rule", lift.force(lift.text()), 0);
         Check.end("ReadmeTest");
+    }
+
+    /** One behind another, with each call that tells its answer held against it. */
+    private static String examples(String readme) {
+        StringBuilder body = new StringBuilder();
+        Matcher found = EXAMPLE.matcher(readme);
+        while (found.find()) {
+            Check.holds("each example tells an answer", ANSWER.matcher(found.group(1)).find());
+            body.append(ANSWER.matcher(found.group(1)).replaceAll("Check.due(\"README.md: $1\", $1, $2);"));
+        }
+        Check.holds("there are examples", body.length() > 0);
+        return body.toString();
+    }
+
+    private static boolean compiles(String body, Path out) throws IOException {
+        Path source = out.resolve(NAME + ".java");
+        Files.writeString(source, "public final class " + NAME + " {\npublic static void main(String[] args) {\n" + body + "}\n}\n");
+        int failed = ToolProvider.getSystemJavaCompiler().run(null, null, null, "-cp",
+            System.getProperty("java.class.path"), "-d", out.toString(), source.toString());
+        Check.due("README.md compiles", failed, 0);
+        return failed == 0;
+    }
+
+    private static void runs(Path out) throws Exception {
+        try (URLClassLoader loader = new URLClassLoader(new URL[] {out.toUri().toURL()})) {
+            loader.loadClass(NAME).getMethod("main", String[].class).invoke(null, (Object) new String[0]);
+        }
     }
 }

@@ -91,25 +91,9 @@ public final class RideBoundsTest {
         }
     }
 
-    private interface Ways {
-        void of(int from, int to, int otherFrom, int otherTo);
-    }
-
-    private static void forAllWays(Ways ways) {
-        for (int from = 0; from < 9; from++) {
-            for (int to = from + 1; to <= 9; to++) {
-                for (int otherFrom = 0; otherFrom < 9; otherFrom++) {
-                    for (int otherTo = otherFrom + 1; otherTo <= 9; otherTo++) {
-                        ways.of(from, to, otherFrom, otherTo);
-                    }
-                }
-            }
-        }
-    }
-
     /** One at the door, one behind: STAYING is who got in on a lesser FLOOR and gets out on a higher one. */
     private static void whoStaysAtAFloor() {
-        forAllWays((a, b, c, d) -> {
+        Ways.forAll((a, b, c, d) -> {
             for (int front = 0; front < 2; front++) {
                 GetsOutFirst x = new GetsOutFirst();
                 x.rider(0, 0, front == 0 ? 100 * a + 10 * b : 100 * c + 10 * d + 4);

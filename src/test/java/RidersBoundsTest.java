@@ -185,24 +185,8 @@ public final class RidersBoundsTest {
         return false;
     }
 
-    private interface Ways {
-        void of(int from, int to, int otherFrom, int otherTo);
-    }
-
-    private static void forAllWays(Ways ways) {
-        for (int from = 0; from < 9; from++) {
-            for (int to = from + 1; to <= 9; to++) {
-                for (int otherFrom = 0; otherFrom < 9; otherFrom++) {
-                    for (int otherTo = otherFrom + 1; otherTo <= 9; otherTo++) {
-                        ways.of(from, to, otherFrom, otherTo);
-                    }
-                }
-            }
-        }
-    }
-
     private static void twoOnOnePlaceByRider() {
-        forAllWays((f, t, g, u) -> {
+        Ways.forAll((f, t, g, u) -> {
             GetsOutFirst x = with(0, 0, 91, 0, 0, 100 * f + 10 * t + 5);
             String what = "2: " + f + " to " + t + ", and " + g + " to " + u;
             boolean meet = meet(f, t, g, u);
@@ -213,7 +197,7 @@ public final class RidersBoundsTest {
     }
 
     private static void twoOnOnePlaceByTo() {
-        forAllWays((f, t, g, u) -> {
+        Ways.forAll((f, t, g, u) -> {
             if (meet(f, t, g, g + 1)) {
                 return;
             }
@@ -226,7 +210,7 @@ public final class RidersBoundsTest {
     }
 
     private static void twoOnOnePlaceByPlace() {
-        forAllWays((f, t, g, u) -> {
+        Ways.forAll((f, t, g, u) -> {
             GetsOutFirst x = with(0, 0, 100 * f + 10 * t, 0, 0, 91, 0, 0, 100 * g + 10 * u + 2);
             String what = "3: PLACE, " + f + " to " + t + ", and " + g + " to " + u;
             boolean meet = meet(f, t, g, u);

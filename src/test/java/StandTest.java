@@ -9,6 +9,7 @@ public final class StandTest {
         standKeepsTwoApart();
         standIsTheFirstOfAllWays();
         standIsNotStale();
+        standIsNotStaleByAnyThing();
         standRefuses();
         oneMoves();
         oneRefuses();
@@ -198,6 +199,35 @@ public final class StandTest {
         x.set(0, 0, 2);
         x.set(0, 0, 1);
         Check.due("11: after force and doors", x.stand(GetsOutFirst.NONE) > 0 ? 1 : 0, 1);
+    }
+
+    /** What STAND tells before and after these calls, all on one lift. */
+    private static void standTells(String what, State s, int before, int after, Call... changes) {
+        GetsOutFirst x = s.make();
+        Check.due("11: before another " + what, x.stand(GetsOutFirst.NONE), before);
+        for (Call c : changes) {
+            Check.holds("11: " + c.written() + " is taken", c.on(x) >= 0);
+        }
+        Check.due("11: by another " + what, x.stand(GetsOutFirst.NONE), after);
+    }
+
+    private static void standIsNotStaleByAnyThing() {
+        String dear = "steps 5;late 1;moves 99;";
+        State two = State.two().read(dear).with("force", 1);
+        standTells("DOORS", two, 10, 0, Call.of("set", 0, 0, 2));
+        standTells("TO", two, 10, 5, Call.of("set", 3, 0, 2));
+        standTells("PLACE", two, 10, 0, Call.of("set", 4, 1, 1));
+        standTells("THE RULE", two, 10, 3, Call.of("force", 0));
+        standTells("RIDER more", two, 10, 11, Call.of("rider", 0, 5, 191));
+        State slim = new State("a SLIM one in front").with("rider", 1, 45, 90).with("rider", 0, 5, 24);
+        slim.read(dear).with("force", 1);
+        standTells("NUMBER", slim, 10, 0, Call.of("set", 1, 0, 9));
+        standTells("SIZE", slim, 10, 0, Call.of("set", 2, 1, 3));
+        // RIDER 1 is in the way as RIDER 0 gets out; it went, and another one came instead
+        State since = new State("came since").read(dear).with("force", 1).with("rider", 0, 5, 24).with("image").with("rider", 0, 5, 90);
+        standTells("KIND", since, 5, 0, Call.of("back"), Call.of("rider", 3, 5, 90));
+        standTells("FROM", since, 5, 0, Call.of("back"), Call.of("rider", 0, 5, 290));
+        standTells("number of RIDERS", since, 5, 0, Call.of("back"));
     }
 
     private static void standRefuses() {
